@@ -264,11 +264,21 @@ public final class MinutesTest {
         check.due("minute", x.count(2), 78);
         for (int i = 7; i >= 0; i--) {
             check.due("undo " + i, x.undo(), i);
+            check.due("minute behind undo " + i, x.count(2), (i + 4) * (i + 5) / 2);
         }
         check.due("minute of the fifth", x.count(2), 10);
         check.due("nothing more", x.undo(), -2);
         x.pass(1);
         check.due("undo behind undo", x.undo(), 0);
         check.due("minute", x.count(2), 10);
+        AgesFerry y = Check.laid("f1,30,1;" + "p2,39,0,0;".repeat(9));
+        for (int p = 0; p < 9; p++) {
+            y.board(p);
+            y.sail();
+            check.due("sailings made by " + p, y.person(p, 5), 1);
+            y.undo();
+            check.due("undone of " + p, y.person(p, 5), 0);
+            y.stepOff(p);
+        }
     }
 }

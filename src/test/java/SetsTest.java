@@ -99,6 +99,7 @@ public final class SetsTest {
         for (int what : NO_WHAT) {
             check.due("sailings " + what, x.sailings(what), -1);
         }
+        check.row("one alone", Check.laid("f1,9,2;p0,13,0,0;")::sailings, 1, 6, 0);
         AgesFerry nine = Check.laid("f1,0,9;" + "p0,10,50,0;".repeat(9));
         check.row("nine to come", nine::sailings, 9, 0, 0);
         AgesFerry far = Check.laid("f1,99,9;" + "p0,99,50,0;".repeat(9));
@@ -118,6 +119,10 @@ public final class SetsTest {
         check.row("as they stand now", party::sailings, 2, 12, 0);
         AgesFerry soldiers = Check.laid("f3,9,1;p3,15,0,0;p3,15,0,0;p3,16,0,0;p3,16,0,0;p3,9,0,0;");
         check.row("soldiers by two", soldiers::sailings, 2, 2, 16);
+        AgesFerry apart = Check.laid("f3,20,1;p0,30,0,0;p0,30,0,0;p3,10,0,0;p3,10,0,0;");
+        check.row("a soldier with each, where they count nothing", apart::sailings, 2, 0, 0);
+        AgesFerry together = Check.laid("f3,9,1;p3,15,0,0;p0,30,0,0;p0,30,0,0;p3,20,0,0;");
+        check.row("more sailings of the same persons", together::sailings, 3, 5, 0);
         AgesFerry hired = Check.laid("f3,9,1;p2,30,0,0;p0,30,0,0;p0,10,0,0;");
         hired.board(0);
         hired.sail();

@@ -34,11 +34,18 @@ public final class TextTest {
         check.due("fault of the empty text", x.fault(), -4);
         check.due("the empty text laid", x.lay(), -2);
         check.due("first letter", x.write('f'), 1);
-        check.due("bears 9", Check.laid("f12,9,1;p0,99,0,0;p0,30,0,0;").sailings(1), 9);
         x.pass(8);
         x.board(0);
         x.board(7);
         check.due("costs 1 each", x.sum(4), 2);
+        x.stepOff(0);
+        x.stepOff(7);
+        x.die(1);
+        x.board(2);
+        x.board(3);
+        x.board(4);
+        check.due("90, 38 and the babe are 9 over", x.sum(2), 9);
+        check.due("and that is borne", x.sail(), 9);
         AgesFerry other = new AgesFerry();
         check.due("another object has its own minute", other.count(2), 0);
         check.due("another object has its own text", other.count(12), 0);
@@ -146,7 +153,7 @@ public final class TextTest {
     }
 
     private static void layingClears() {
-        AgesFerry x = Check.laid("f1,0,0;p0,10,0,0;p2,10,0,0;p0,3,0,0;p0,4,0,1;p0,4,1,1;");
+        AgesFerry x = Check.laid("f1,1,9;p0,10,0,0;p2,11,0,0;p0,3,0,0;p0,4,0,1;p0,4,1,1;");
         x.board(0);
         x.sail();
         x.board(1);
@@ -156,7 +163,7 @@ public final class TextTest {
         x.pass(3);
         x.tell(1, 5);
         x.keep();
-        check.row("count before", x::count, 5, 10, 3, 2, 1, 1, 1, 2, 0, 1, 7, 1, 54);
+        check.row("count before", x::count, 5, 10, 3, 2, 1, 1, 1, 2, 9, 1, 7, 1, 54);
         check.due("lay", x.lay(), 5);
         check.row("count behind lay", x::count, 5, 10, 0, 4, 0, 0, 0, 0, 0, 0, 0, 0, 54);
         check.places("lay", x, "11110");
@@ -165,7 +172,7 @@ public final class TextTest {
         check.due("back", x.back(), -2);
         check.due("liar", x.liar(), 512 + 31);
         x.board(3);
-        check.due("who sailed counts all his age again", x.board(1), 14);
+        check.due("who sailed counts all his age again", x.board(1), 15);
         check.due("party as laid", x.sum(3), 0);
         AgesFerry y = Check.laid("f1,9,1;p3,9,0,1;p3,8,0,1;");
         y.board(0);
