@@ -859,8 +859,9 @@ public final class AgesFerry {
             int lowest = used & -used;
             most.put(used, NONE);
             least.put(used, 0);
-            // Each turn goes to the next lower part of the same persons; behind the last one it is 0.
-            for (int set = used; set > 0; set = (set - 1) & used) {
+            int set = used;
+            // Each turn goes to the next lower part of the same persons, of which there are fewer than SETS.
+            for (int turn = 0; turn < SETS && set > 0; turn++) {
                 int others = used & ~set;
                 // One of the sets has the lowest person; to take that one first misses no way.
                 if ((set & lowest) != 0 && costs.at(set) != NONE && most.at(others) != NONE) {
@@ -871,6 +872,7 @@ public final class AgesFerry {
                         least.put(used, coins);
                     }
                 }
+                set = (set - 1) & used;
             }
         }
 
