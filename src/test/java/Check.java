@@ -16,6 +16,14 @@ final class Check {
         }
     }
 
+    void same(String what, String got, String want) {
+        asked++;
+        if (!got.equals(want)) {
+            wrong++;
+            System.out.println(name + ": " + what + " is " + got + ", due is " + want);
+        }
+    }
+
     /** The answers to ask(0), ask(1), .. in one go. */
     void row(String call, java.util.function.IntUnaryOperator ask, int... wants) {
         for (int i = 0; i < wants.length; i++) {
@@ -46,6 +54,26 @@ final class Check {
         return ferry;
     }
 
+    /** Lets minutes go by, some at a time, until it is that one. */
+    static AgesFerry until(AgesFerry ferry, int minute) {
+        for (int i = 0; i < 600 && ferry.count(2) < minute; i++) {
+            ferry.pass(Math.min(60, minute - ferry.count(2)));
+        }
+        return ferry;
+    }
+
+    /** Those of the set board, and nobody else is aboard. */
+    static AgesFerry aboard(AgesFerry ferry, int set) {
+        for (int p = 0; p < 9; p++) {
+            if ((set >> p & 1) == 1) {
+                ferry.board(p);
+            } else {
+                ferry.stepOff(p);
+            }
+        }
+        return ferry;
+    }
+
     /** Where each person is, the first one's place in front. */
     static String places(AgesFerry ferry) {
         StringBuilder all = new StringBuilder();
@@ -56,11 +84,6 @@ final class Check {
     }
 
     void places(String call, AgesFerry ferry, String want) {
-        asked++;
-        String got = places(ferry);
-        if (!got.equals(want)) {
-            wrong++;
-            System.out.println(name + ": places behind " + call + " are " + got + ", due is " + want);
-        }
+        same("places behind " + call, places(ferry), want);
     }
 }

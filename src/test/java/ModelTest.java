@@ -2,7 +2,9 @@ import java.util.Random;
 
 /** Long runs of calls, the same ones each time, answered by the class and by the model. */
 public final class ModelTest {
-    private static final int RUNS = 240, CALLS = 512;
+    private static final int RUNS = 360, CALLS = 512;
+    /** No more calls are made by a new text, and by anything else at one time. */
+    private static final int TEXT_CALLS = 260, OTHER_CALLS = 10;
     private static final int[] FAR = {-1, -2, 9, 10, 61, 512, 1000, 10000, Integer.MIN_VALUE, Integer.MAX_VALUE};
 
     private static final Check check = new Check("ModelTest");
@@ -10,6 +12,7 @@ public final class ModelTest {
     private static AgesFerry x;
     private static Model m;
     private static String run;
+    private static int calls;
     private static int sailings;
 
     public static void main(String[] args) {
@@ -17,25 +20,31 @@ public final class ModelTest {
             x = new AgesFerry();
             m = new Model();
             run = "run " + r + ": ";
-            int calls = 0;
+            calls = 0;
             // One run in eight goes on from the first quay.
             if (r % 8 != 0) {
-                calls = newText();
+                newText();
             }
             int kind = r % 3;
-            while (calls < CALLS) {
-                calls += random.nextInt(kind == 0 ? 60 : 150) == 0 ? newText() : oneCall();
+            while (calls + OTHER_CALLS <= CALLS) {
+                if (calls + TEXT_CALLS <= CALLS && random.nextInt(kind == 0 ? 60 : 150) == 0) {
+                    newText();
+                } else {
+                    oneCall();
+                }
             }
+            check.due(run + "more than 512 calls", calls <= CALLS ? 0 : calls, 0);
         }
         check.due("the runs sail often: " + sailings, sailings > RUNS ? 1 : 0, 1);
         check.end();
     }
 
     private static void due(String call, int got, int want) {
+        calls++;
         check.due(run + call, got, want);
     }
 
-    private static int newText() {
+    private static void newText() {
         due("wipe()", x.wipe(), m.wipe());
         String text = text();
         for (int i = 0; i < text.length(); i++) {
@@ -43,7 +52,6 @@ public final class ModelTest {
         }
         due("fault() of " + text, x.fault(), m.fault());
         due("lay() of " + text, x.lay(), m.lay());
-        return text.length() + 3;
     }
 
     private static String text() {
@@ -84,10 +92,10 @@ public final class ModelTest {
     }
 
     private static int someone() {
-        return any(Math.max(1, x.count(0)));
+        return any(Math.max(1, m.count(0)));
     }
 
-    private static int oneCall() {
+    private static void oneCall() {
         int p = someone();
         int what = any(3);
         switch (random.nextInt(33)) {
@@ -123,7 +131,6 @@ public final class ModelTest {
             case 28 -> count(any(13));
             default -> person(p, any(6));
         }
-        return 1;
     }
 
     private static void pass(int n) {
@@ -152,10 +159,10 @@ public final class ModelTest {
     }
 
     private static void tell() {
-        int bits = any(1 << Math.max(1, x.count(0)));
+        int bits = any(1 << Math.max(1, m.count(0)));
         int s = random.nextInt(12) == 0 ? any(1000) : 0;
-        for (int p = 0; p < x.count(0); p++) {
-            s += (bits >> p & 1) == 1 ? x.person(p, 1) : 0;
+        for (int p = 0; p < m.count(0); p++) {
+            s += (bits >> p & 1) == 1 ? m.person(p, 1) : 0;
         }
         s += random.nextInt(3) == 0 ? random.nextInt(9) - 4 : 0;
         due("tell(" + bits + ", " + s + ")", x.tell(bits, s), m.tell(bits, s));
