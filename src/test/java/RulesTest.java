@@ -104,6 +104,7 @@ public final class RulesTest {
         none("loops without an end in sight", found(code, "for \\(;;|while \\(true|;\\s*;"));
         none("long lines", found(code, "(?m)^.{121,}$"));
         none("long methods", longMethods(code));
+        none("objects made by a call", madeByCalls(code));
     }
 
     private static List<String> found(String code, String pattern) {
@@ -111,6 +112,21 @@ public final class RulesTest {
         Matcher matcher = Pattern.compile(pattern).matcher(code);
         while (matcher.find()) {
             all.add(matcher.group());
+        }
+        return all;
+    }
+
+    /** All rows are made with the object and used again: "new" stands in fields and constructors alone. */
+    private static List<String> madeByCalls(String code) {
+        List<String> all = new ArrayList<>();
+        boolean constructor = false;
+        for (String line : code.split("\n")) {
+            boolean method = line.matches(" {4,8}(\\w+ )*\\w+ ?\\w*\\(.*\\) \\{");
+            constructor = method ? line.matches(" +(public )?[A-Z]\\w*\\(.*\\) \\{") : constructor;
+            boolean field = line.matches(" +(private )?final [A-Z]\\w* \\w+ = new .*;");
+            if (line.matches(".*\\bnew\\b.*") && !constructor && !field) {
+                all.add(line.trim());
+            }
         }
         return all;
     }
